@@ -649,8 +649,9 @@ public final class BulbPapers {
         private static final int NOBODY_PAYS = 0;
         private static final int ALL_PAY = 1;
 
-        // each round empties a paper or ends a shortfall, so some hundred are the most
-        private static final int ROUNDS = 100000;
+        // a round empties a paper (at most 40 do) or ends a shortfall (at most 9 at first, and one
+        // more for each paper emptied), so fewer than a hundred are ever needed
+        private static final int ROUNDS = 1000;
 
         // of each paper what is paid as far as all can, kept since only a new paper changes it
         private final int[] settled;
