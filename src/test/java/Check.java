@@ -1,4 +1,4 @@
-/** Counts the answers that are not as due, prints them, and ends a test. */
+/** Counts the answers that are not as due, prints them with the test they belong to, and ends a test. */
 final class Check {
     private static int asked = 0;
     private static int wrong = 0;
@@ -10,7 +10,7 @@ final class Check {
         asked++;
         if (got != want) {
             wrong++;
-            System.out.println(call + " answered " + got + ", due is " + want);
+            System.out.println(place() + call + " answered " + got + ", due is " + want);
         }
     }
 
@@ -27,5 +27,17 @@ final class Check {
         if (wrong != 0 || asked == 0) {
             System.exit(1);
         }
+    }
+
+    /** The method that main called, with the line where it stands. */
+    private static String place() {
+        String place = "";
+        for (StackTraceElement frame : new Throwable().getStackTrace()) {
+            if (frame.getMethodName().equals("main")) {
+                break;
+            }
+            place = frame.getMethodName() + ", line " + frame.getLineNumber() + ": ";
+        }
+        return place;
     }
 }

@@ -7,6 +7,10 @@ final class MostIsPaidTest {
     private final BulbPapers x = new BulbPapers();
     private final int[] purses = new int[PERSONS];
     private final int papers;
+    // read once, as an object is good for 512 calls only
+    private final int[] sellers;
+    private final int[] buyers;
+    private final int[] owed;
     private int[] best = new int[0];
     private int most = -1;
     private int ways = 0;
@@ -25,6 +29,17 @@ final class MostIsPaidTest {
             x.paper(seller, random.nextInt(PERSONS), seller, 1 + random.nextInt(4));
         }
         papers = x.about(2);
+        sellers = facts(0);
+        buyers = facts(1);
+        owed = facts(10);
+    }
+
+    private int[] facts(int what) {
+        int[] row = new int[papers];
+        for (int paper = 0; paper < papers; paper++) {
+            row[paper] = x.paperOf(paper, what);
+        }
+        return row;
     }
 
     public static void main(String[] args) {
@@ -55,7 +70,7 @@ final class MostIsPaidTest {
     private int owedBy(int person) {
         int sum = 0;
         for (int paper = 0; paper < papers; paper++) {
-            sum += x.paperOf(paper, 1) == person ? x.paperOf(paper, 10) : 0;
+            sum += buyers[paper] == person ? owed[paper] : 0;
         }
         return sum;
     }
@@ -66,10 +81,10 @@ final class MostIsPaidTest {
         int[] paid = new int[papers];
         int all = 0;
         for (int paper = 0; paper < papers; paper++) {
-            int buyer = x.paperOf(paper, 1);
-            paid[paper] = Math.min(open[buyer], x.paperOf(paper, 10));
+            int buyer = buyers[paper];
+            paid[paper] = Math.min(open[buyer], owed[paper]);
             open[buyer] -= paid[paper];
-            coins[x.paperOf(paper, 0)] += paid[paper];
+            coins[sellers[paper]] += paid[paper];
             all += paid[paper];
         }
         for (int person = 0; person < PERSONS; person++) {

@@ -19,49 +19,13 @@ final class SpringTest {
         Check.finish();
     }
 
-    /** Persons with these purses, a bulb of weight 10 each that never grows, and no wine. */
     private static BulbPapers withPurses(int... purses) {
-        BulbPapers x = new BulbPapers();
-        for (int purse : purses) {
-            x.person(purse);
-        }
-        for (int month = 0; month < 7; month++) {
-            x.growth(0, month, 0);
-        }
-        Text.house(x, "wine 0;");
-        for (int person = 0; person < purses.length; person++) {
-            x.bulb(person, 0, 10);
-        }
-        return x;
+        return Debts.between(10, purses);
     }
 
     /** The buyer will owe the seller ten times the price. */
     private static void owe(BulbPapers x, int buyer, int seller, int price) {
         x.paper(seller, buyer, seller, price);
-    }
-
-    private static void paids(String run, BulbPapers x, int... due) {
-        int sum = 0;
-        for (int paper = 0; paper < due.length; paper++) {
-            Check.due(run + ": paid(" + paper + ", 2, 0)", x.paid(paper, 2, 0), due[paper]);
-            sum += due[paper];
-        }
-        Check.due(run + ": all(2, 0)", x.all(2, 0), sum);
-    }
-
-    private static void lefts(String run, BulbPapers x, int way, int p, int... due) {
-        for (int person = 0; person < due.length; person++) {
-            Check.due(run + ": left(" + person + ", " + way + ", " + p + ")", x.left(person, way, p), due[person]);
-        }
-    }
-
-    private static void failing(String run, BulbPapers x, int... due) {
-        int sum = 0;
-        for (int person = 0; person < due.length; person++) {
-            Check.due(run + ": fails(" + person + ")", x.fails(person), due[person]);
-            sum += due[person];
-        }
-        Check.due(run + ": about(9)", x.about(9), sum);
     }
 
     private static void wrongCalls() {
@@ -94,14 +58,14 @@ final class SpringTest {
         BulbPapers x = withPurses(25, 0, 7);
         owe(x, 0, 1, 3);
         owe(x, 1, 2, 4);
-        lefts("nobody", x, 0, 0, 25, 0, 7);
-        lefts("all", x, 1, 0, -5, -10, 47);
-        lefts("as far as they can", x, 2, 0, 0, 0, 32);
-        lefts("decree", x, 3, 33, 16, -4, 20);
-        lefts("decree of nothing", x, 3, 0, 25, 0, 7);
-        lefts("decree of all", x, 3, 100, -5, -10, 47);
-        paids("as far as they can", x, 25, 25);
-        failing("as far as they can", x, 1, 1, 0);
+        Debts.lefts(x, 0, 0, 25, 0, 7);
+        Debts.lefts(x, 1, 0, -5, -10, 47);
+        Debts.lefts(x, 2, 0, 0, 0, 32);
+        Debts.lefts(x, 3, 33, 16, -4, 20);
+        Debts.lefts(x, 3, 0, 25, 0, 7);
+        Debts.lefts(x, 3, 100, -5, -10, 47);
+        Debts.paids(x, 2, 0, 25, 25);
+        Debts.failing(x, 1, 1, 0);
         Check.due("all(0, 0)", x.all(0, 0), 0);
         Check.due("all(1, 0)", x.all(1, 0), 70);
         Check.due("all(3, 33)", x.all(3, 33), 9 + 13);
@@ -118,14 +82,14 @@ final class SpringTest {
         owe(x, 0, 3, 2);
         owe(x, 0, 1, 3);
         owe(x, 0, 2, 1);
-        paids("in order", x, 20, 25, 0);
-        lefts("in order", x, 2, 0, 0, 25, 0, 20);
-        failing("in order", x, 1, 0, 0, 0);
+        Debts.paids(x, 2, 0, 20, 25, 0);
+        Debts.lefts(x, 2, 0, 0, 25, 0, 20);
+        Debts.failing(x, 1, 0, 0, 0);
         BulbPapers y = withPurses(50, 0, 0, 0);
         owe(y, 0, 3, 2);
         owe(y, 0, 1, 3);
-        paids("just enough", y, 20, 30);
-        failing("just enough", y, 0, 0, 0, 0);
+        Debts.paids(y, 2, 0, 20, 30);
+        Debts.failing(y, 0, 0, 0, 0);
     }
 
     private static void ringWithoutCoins() {
@@ -133,15 +97,15 @@ final class SpringTest {
         owe(x, 0, 1, 5);
         owe(x, 1, 2, 5);
         owe(x, 2, 0, 5);
-        paids("ring", x, 50, 50, 50);
-        failing("ring", x, 0, 0, 0);
-        lefts("ring", x, 2, 0, 0, 0, 0);
+        Debts.paids(x, 2, 0, 50, 50, 50);
+        Debts.failing(x, 0, 0, 0);
+        Debts.lefts(x, 2, 0, 0, 0, 0);
         BulbPapers y = withPurses(0, 0, 0);
         owe(y, 0, 1, 5);
         owe(y, 1, 2, 3);
         owe(y, 2, 0, 4);
-        paids("uneven ring", y, 30, 30, 30);
-        failing("uneven ring", y, 1, 0, 1);
+        Debts.paids(y, 2, 0, 30, 30, 30);
+        Debts.failing(y, 1, 0, 1);
     }
 
     private static void ringThatLosesACoin() {
@@ -150,14 +114,14 @@ final class SpringTest {
         owe(x, 1, 2, 1);
         owe(x, 0, 1, 5);
         owe(x, 1, 0, 5);
-        paids("a ring behind an older debt", x, 0, 0, 0);
-        failing("a ring behind an older debt", x, 1, 1, 0);
+        Debts.paids(x, 2, 0, 0, 0, 0);
+        Debts.failing(x, 1, 1, 0);
         BulbPapers y = withPurses(0, 0, 0);
         owe(y, 0, 1, 5);
         owe(y, 1, 0, 5);
         owe(y, 1, 2, 1);
-        paids("a ring ahead of a later debt", y, 50, 50, 0);
-        failing("a ring ahead of a later debt", y, 0, 1, 0);
+        Debts.paids(y, 2, 0, 50, 50, 0);
+        Debts.failing(y, 0, 1, 0);
     }
 
     private static void ringsThatShareAPerson() {
@@ -167,9 +131,9 @@ final class SpringTest {
         owe(x, 1, 0, 5);
         owe(x, 2, 3, 1);
         owe(x, 2, 0, 5);
-        paids("two rings", x, 50, 3, 50, 3, 0);
-        lefts("two rings", x, 2, 0, 0, 0, 0, 3);
-        failing("two rings", x, 1, 0, 1, 0);
+        Debts.paids(x, 2, 0, 50, 3, 50, 3, 0);
+        Debts.lefts(x, 2, 0, 0, 0, 0, 3);
+        Debts.failing(x, 1, 0, 1, 0);
     }
 
     /** Nine in a ring of the dearest papers; its first member owes one coin to the tenth ahead of it. */
@@ -200,11 +164,11 @@ final class SpringTest {
         int round = x.paperOf(1, 10);
         Check.due("owed in the ring", round, 7140);
         Check.due("owed beside the ring", x.paperOf(0, 10), 1);
-        paids("a ring with a coin to lose", x, 1, round, round, round, round, round, round, round, round, round);
-        failing("a ring with a coin to lose", x, 0, 0, 0, 0, 0, 0, 0, 0, 0, 0);
+        Debts.paids(x, 2, 0, 1, round, round, round, round, round, round, round, round, round);
+        Debts.failing(x, 0, 0, 0, 0, 0, 0, 0, 0, 0, 0);
         BulbPapers y = longRing(0);
-        paids("a ring that loses a coin each time", y, 0, 0, 0, 0, 0, 0, 0, 0, 0, 0);
-        failing("a ring that loses a coin each time", y, 1, 1, 1, 1, 1, 1, 1, 1, 1, 0);
+        Debts.paids(y, 2, 0, 0, 0, 0, 0, 0, 0, 0, 0, 0, 0);
+        Debts.failing(y, 1, 1, 1, 1, 1, 1, 1, 1, 1, 0);
     }
 
     private static void hurts() {
@@ -228,7 +192,7 @@ final class SpringTest {
         owe(x, 0, 1, 2);
         owe(x, 1, 0, 1);
         owe(x, 2, 0, 1);
-        lefts("all", x, 3, 100, 0, 20, 0);
+        Debts.lefts(x, 3, 100, 0, 20, 0);
         Check.due("left(0, 3, 5)", x.left(0, 3, 5), -1);
         Check.due("hurts() though the whole does not", x.hurts(), 5);
     }
